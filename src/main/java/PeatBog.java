@@ -209,19 +209,14 @@ public final class PeatBog {
             return NONE;
         }
         Law inForce = lawOn(day);
+        if (within(what, CLOSED_FROM, CLOSED_FROM + BAYS - 1)) {
+            return inForce.closes(what - CLOSED_FROM, day) ? 1 : 0;
+        }
         switch (what) {
-            case 0:
-                return inForce.limit;
-            case 1:
-                return inForce.depthKept;
-            case 2:
-                return inForce.number;
-            default:
-                // Compared without a subtraction first: what may be the least int.
-                if (what < CLOSED_FROM || what >= CLOSED_FROM + BAYS) {
-                    return NONE;
-                }
-                return inForce.closes(what - CLOSED_FROM, day) ? 1 : 0;
+            case 0: return inForce.limit;
+            case 1: return inForce.depthKept;
+            case 2: return inForce.number;
+            default: return NONE;
         }
     }
 
@@ -972,7 +967,7 @@ public final class PeatBog {
 
         // Days ahead of this one have the bays of the laying tried before, and their rows stand.
         private int firstChanged(int code) {
-            int k = code == 0 ? 0 : days - 1;
+            int k = days - 1;
             while (k > 0 && bayIn(code, k) == 0) {
                 k--;
             }

@@ -84,6 +84,36 @@ public final class DayTest {
         x.day(0, 0, 50);
         Due.due("10 at least", x.stackOf(0, 2), 10);
 
+        // A ridged bay is brought to 501, just above 500.
+        PeatBog z = new PeatBog();
+        z.stack();
+        z.mill(0, 1);
+        z.mill(1, 1);
+        z.ridge(1);
+        z.day(10, 0, 0);
+        z.day(10, 5, 0);
+        z.day(10, 10, 0);
+        z.day(2, 1, 0);
+        z.day(0, 0, 1);
+        Due.due("bay(0, 3)", z.bay(0, 3), 330);
+        z.day(0, 0, 17);
+        Due.due("bay(0, 3)", z.bay(0, 3), 500);
+        Due.due("bay(1, 3)", z.bay(1, 3), 604);
+        z.day(8, 1, 0);
+        Due.due("bay(1, 3)", z.bay(1, 3), 553);
+        z.day(9, 0, 1);
+        Due.due("bay(1, 3)", z.bay(1, 3), 501);
+        for (int i = 0; i < 3; i++) {
+            z.probe(1, 1);
+        }
+        z.gather(1, 0);
+        Due.due("stackOf(0, 1)", z.stackOf(0, 1), 501);
+        z.day(0, 0, 0);
+        Due.due("by 3 with wet at 501", z.stackOf(0, 2), 13);
+        heatingByWeight();
+    }
+
+    private static void heatingByWeight() {
         PeatBog y = new PeatBog();
         y.stack();
         Due.bring(y, 0, 20, 0);
@@ -104,6 +134,17 @@ public final class DayTest {
         Due.due("it heats ahead of the taking", y.stackOf(0, 2), 24);
         y.day(0, 0, 0);
         Due.due("without weight it stays", y.stackOf(0, 2), 24);
+
+        PeatBog x = new PeatBog();
+        x.stack();
+        Due.bring(x, 0, 20, 0);
+        Due.bring(x, 1, 20, 0);
+        Due.bring(x, 2, 10, 0);
+        x.want(1);
+        x.day(0, 0, 0);
+        Due.due("500 of wet peat: by 4", x.stackOf(0, 2), 14);
+        x.day(0, 0, 0);
+        Due.due("499 of wet peat: by 3", x.stackOf(0, 2), 17);
     }
 
     private static void burning() {
@@ -309,6 +350,23 @@ public final class DayTest {
         Due.enact(x, "limit 5;");
         Due.passDays(x, 7);
         Due.due("the newer has no rule", x.stackOf(0, 7), 2);
+
+        // Of a stack without weight nothing is turned or sent; a weight of 1 is enough.
+        PeatBog z = new PeatBog();
+        z.stack();
+        z.stack();
+        Due.bring(z, 0, 1, 1);
+        Due.enact(z, "if tons < 2 then turn;");
+        Due.passDays(z, 6);
+        z.want(9);
+        z.day(0, 0, 0);
+        Due.due("the empty one", z.stackOf(0, 7), 0);
+        Due.due("the one of 1", z.stackOf(1, 7), 1);
+        Due.enact(z, "if tons < 2 then send;");
+        z.want(0);
+        Due.passDays(z, 7);
+        Due.due("the empty one", z.stackOf(0, 8), 0);
+        Due.due("the one of 1", z.stackOf(1, 8), 1);
 
         // What the house took on the day isn't sent any more, and the sent isn't taken that day.
         PeatBog y = new PeatBog();

@@ -61,6 +61,8 @@ public final class FaultTest {
         dueFault("limit`5;", 5);
         dueFault("limit{5;", 5);
         dueFault("limit/5;", 5);
+        dueFault("limitz 5;", 0);
+        dueFault("alimit 5;", 0);
         dueFault("limit:5;", 5);
     }
 
