@@ -98,7 +98,7 @@ public final class BestTest {
     }
 
     /** The best sum and its bays, by going through all of them day by day. */
-    private static int[] lay(int[] weight, int at, int days) {
+    static int[] lay(int[] weight, int at, int days) {
         int[] best = null;
         if (days == 0) {
             return new int[] {0};

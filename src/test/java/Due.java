@@ -4,15 +4,21 @@ import java.nio.charset.StandardCharsets;
 final class Due {
     private static int asked = 0;
     private static int wrong = 0;
+    private static String sentence = "";
 
     private Due() {
+    }
+
+    /** Names the words of the document that the answers to come are about. */
+    static void of(String words) {
+        sentence = "[" + words + "] ";
     }
 
     static void due(String call, long got, long want) {
         asked++;
         if (got != want) {
             wrong++;
-            System.out.println(call + " answered " + got + ", due is " + want);
+            System.out.println(sentence + call + " answered " + got + ", due is " + want);
         }
     }
 
@@ -54,6 +60,12 @@ final class Due {
     static void passDays(PeatBog x, int many) {
         for (int i = 0; i < many; i++) {
             x.day(0, 0, 0);
+        }
+    }
+
+    static void probes(PeatBog x, int bay, int many, int wet) {
+        for (int i = 0; i < many; i++) {
+            x.probe(bay, wet);
         }
     }
 

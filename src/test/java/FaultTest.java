@@ -128,7 +128,7 @@ public final class FaultTest {
     }
 
     /** The place of the fault found in another way: by the pattern of what may follow so far. */
-    private static int faultOf(String text) {
+    static int faultOf(String text) {
         Matcher tokens = Pattern.compile("[a-z]+|[0-9]+|[^ \\n]", Pattern.DOTALL).matcher(text);
         String test = "(heat|weeks|tons) [<>=] N ";
         String statement = "(limit N ; |depth N ; |close N to N from N to N ; |if " + test + "(and " + test + "){0,2}then "
@@ -140,7 +140,8 @@ public final class FaultTest {
         StringBuilder sofar = new StringBuilder();
         while (tokens.find()) {
             String token = tokens.group();
-            sofar.append(token.matches("[0-9]{1,4}") ? "N" : token.matches("[0-9]+") ? "!" : token).append(' ');
+            boolean known = token.matches("[a-z]+|[<>=;]");
+            sofar.append(token.matches("[0-9]{1,4}") ? "N" : known ? token : "!").append(' ');
             Matcher m = whole.matcher(sofar);
             boolean goesOn = m.matches() || m.hitEnd();
             if (!goesOn && !withOpen.matcher(sofar).matches()) {

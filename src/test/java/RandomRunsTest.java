@@ -1,96 +1,155 @@
+import java.lang.reflect.Method;
+import java.util.HashMap;
+import java.util.Map;
 import java.util.Random;
 
-/** Long random runs: no call throws, no peat is lost or made, answers stay within their bounds. */
+/** Random runs of 512 calls at most: each answer is PlainBog's, no call throws, and no peat is lost or made. */
 public final class RandomRunsTest {
-    private static final int[] EDGES = {Integer.MIN_VALUE, -2, -1, 16, 17, 1001, Integer.MAX_VALUE};
+    private static final int[] EDGES = {Integer.MIN_VALUE, -3, -2, -1, 0, 1, 9, 10, 11, 15, 16, 17, 20, 21, 50, 51, 100, 101,
+        500, 501, 900, 901, 1000, 1001, 3000, 3001, Integer.MAX_VALUE};
+    private static final String[] LAWS = {"limit 800;", "limit 550;depth 980;", "if heat>20 then turn;",
+        "if tons>100 then send;", "close 3 to 9 from 2 to 30;if tons<51 then send;", "if weeks>1 and tons<50 then keep;",
+        "if heat<60 and weeks=1 and tons>10 then turn;if weeks>2 then send;limit 900;", "close 5 to 5 from 20 to 2;depth 990;",
+        "limit 700;;", "if weeks<9", "if tons=10 and tons=10 and tons=10 and tons=10 then keep;", "limit 1;".repeat(17)};
+    private static final int MOST_CALLS = 512;
+    private static final Map<String, Method> OURS = methodsOf(PeatBog.class);
+    private static final Map<String, Method> PLAIN = methodsOf(PlainBog.class);
+
+    private final Random random;
+    private final PeatBog x = new PeatBog();
+    private final PlainBog plain = new PlainBog();
+    private final StringBuilder past = new StringBuilder();
+    private int calls = 0;
+    private long milled = 0;
+
+    private RandomRunsTest(int seed) {
+        random = new Random(seed);
+    }
 
     public static void main(String[] args) {
-        for (int run = 0; run < 400; run++) {
-            oneRun(new Random(run));
+        for (int seed = 0; seed < 400; seed++) {
+            RandomRunsTest run = new RandomRunsTest(seed);
+            while (run.calls < MOST_CALLS - 100) {
+                run.step(seed % 4);
+            }
+            run.balance();
         }
         Due.finish();
     }
 
-    private static void oneRun(Random random) {
-        PeatBog x = new PeatBog();
-        long milled = 0;
-        for (int call = 0; call < 512; call++) {
-            int bay = edged(random, 16);
-            int stack = edged(random, 3);
-            switch (random.nextInt(16)) {
-                case 0: x.depth(bay, edged(random, 3001)); break;
-                case 1: case 2:
-                    int much = edged(random, 21);
-                    milled += x.mill(bay, much) == 0 ? 10L * much : 0;
-                    break;
-                case 3: x.ridge(bay); break;
-                case 4: case 5: case 6: probes(x, random); break;
-                case 7: if (random.nextInt(8) == 0) x.stack(); break;
-                case 8: case 9: dueGather(x, bay, stack); break;
-                case 10: x.track(edged(random, 16)); break;
-                case 11: x.want(edged(random, 60)); break;
-                case 12: x.read(stack, edged(random, 101)); break;
-                case 13: x.day(edged(random, 11), edged(random, 11), edged(random, 51)); break;
-                case 14: laws(x, random); break;
-                default: asks(x, random);
+    private static Map<String, Method> methodsOf(Class<?> c) {
+        Map<String, Method> found = new HashMap<>();
+        for (Method m : c.getDeclaredMethods()) {
+            m.setAccessible(true);
+            found.put(m.getName() + m.getParameterCount(), m);
+        }
+        return found;
+    }
+
+    private static int answer(Map<String, Method> methods, Object object, String name, Object[] args) {
+        try {
+            Object answer = methods.get(name + args.length).invoke(object, args);
+            return answer instanceof Boolean is ? is ? 1 : 0 : (Integer) answer;
+        } catch (ReflectiveOperationException e) {
+            // An answer that no call gives, so that what was thrown is told with its call.
+            System.out.println(name + " threw " + e.getCause());
+            return Integer.MIN_VALUE;
+        }
+    }
+
+    private int ask(String name, Integer... args) {
+        calls++;
+        int want = answer(PLAIN, plain, name, args);
+        int got = answer(OURS, x, name, args);
+        past.append(name).append(java.util.Arrays.toString(args)).append(' ');
+        Due.due(got == want ? name : past.toString(), got, want);
+        return got;
+    }
+
+    private int any(int bound) {
+        return random.nextInt(30) == 0 ? EDGES[random.nextInt(EDGES.length)] : random.nextInt(bound);
+    }
+
+    /** Some kinds of run let the stacks wait so long that they burn, or have many laws. */
+    private void step(int kind) {
+        int bay = any(16);
+        switch (random.nextInt(kind == 1 ? 26 : 17)) {
+            case 0: ask("depth", bay, any(3001)); break;
+            case 1: case 2: mill(bay); break;
+            case 3: ask("ridge", bay); break;
+            case 4: case 5: case 6: bring(bay); break;
+            case 7: if (random.nextInt(3) == 0) ask("stack"); break;
+            case 8: ask("probe", bay, any(901)); break;
+            case 9: ask("track", bay); break;
+            case 10: ask("want", any(kind == 1 ? 3 : 60)); break;
+            case 11: ask("read", any(4), any(101)); break;
+            case 12: if (kind != 3 || random.nextInt(4) == 0) law(); break;
+            case 13: question(); break;
+            case 14: ask("stackOf", any(4), any(9)); break;
+            default: ask("day", any(kind == 2 ? 11 : 3), any(11), random.nextInt(3) == 0 ? any(51) : 0);
+        }
+    }
+
+    private void mill(int bay) {
+        int much = any(21);
+        milled += ask("mill", bay, much) == 0 ? 10L * much : 0;
+    }
+
+    private void bring(int bay) {
+        if (random.nextInt(4) > 0) {
+            ask("track", bay);
+        }
+        int probes = 2 + random.nextInt(3);
+        for (int i = 0; i < probes; i++) {
+            ask("probe", bay, random.nextInt(random.nextInt(4) == 0 ? 901 : 500));
+        }
+        ask("bars", bay);
+        ask("gather", bay, any(3));
+    }
+
+    private void law() {
+        byte[] bytes = Due.bytesOf(LAWS[random.nextInt(LAWS.length)]);
+        if (random.nextInt(8) == 0) {
+            bytes[random.nextInt(bytes.length)] = (byte) random.nextInt(256);
+        }
+        for (int from = 0; from < bytes.length; from += 20) {
+            Integer[] n = new Integer[] {0, 0, 0, 0, 0};
+            for (int i = 0; i < 20; i++) {
+                n[i / 4] = n[i / 4] << 8 | (from + i < bytes.length ? bytes[from + i] & 255 : 32);
             }
+            ask("feed", n);
         }
-        dueBalance(x, milled);
-    }
-
-    private static void probes(PeatBog x, Random random) {
-        int bay = edged(random, 16);
-        for (int i = 0; i < 3; i++) {
-            x.probe(bay, edged(random, 600));
+        if (random.nextInt(9) > 0) {
+            ask("law", random.nextInt(6) == 0 ? any(501) : x.count(12));
+            calls++;
+            ask("fault");
         }
     }
 
-    private static void dueGather(PeatBog x, int bay, int stack) {
-        boolean takes = x.bars(bay) == 0 && x.stackOf(stack, 4) == 0 && x.stackOf(stack, 8) == 0;
-        int weight = x.bay(bay, 2);
-        Due.due("gather(" + bay + ", " + stack + ")", x.gather(bay, stack), takes ? weight : PeatBog.NONE);
-    }
-
-    private static void laws(PeatBog x, Random random) {
-        String[] texts = {"limit 300;", "if heat > 20 then turn;", "if tons > 100 then send;", "depth 980;",
-            "close 3 to 9 from 2 to 30;", "if weeks > 1 and tons < 50 then keep;"};
-        Due.feedBytes(x, Due.bytesOf(texts[random.nextInt(texts.length)]));
-        if (random.nextInt(3) == 0) {
-            x.feed(random.nextInt(), random.nextInt(), random.nextInt(), random.nextInt(), random.nextInt());
+    private void question() {
+        switch (random.nextInt(8)) {
+            case 0: ask("tells", any(1001), any(27)); break;
+            case 1: ask("tells", any(60), any(4)); break;
+            case 2: case 3: ask("best", any(4), any(4)); break;
+            case 4: ask("best", 1 + random.nextInt(3), PeatBog.NONE); break;
+            case 5: ask("bay", any(16), any(8)); break;
+            case 6: ask("lasts"); break;
+            default: ask("count", any(14));
         }
-        x.law(random.nextInt(12) == 0 ? edged(random, 501) : x.count(12));
     }
 
-    private static void asks(PeatBog x, Random random) {
-        x.fault();
-        x.lasts();
-        x.tells(edged(random, 1001), edged(random, 27));
-        x.best(edged(random, 5), edged(random, 4));
-        x.stackOf(edged(random, 11), edged(random, 10));
-        x.bay(edged(random, 16), edged(random, 8));
-        x.count(edged(random, 14));
-    }
-
-    private static int edged(Random random, int bound) {
-        return random.nextInt(25) == 0 ? EDGES[random.nextInt(EDGES.length)] : random.nextInt(bound);
-    }
-
-    private static void dueBalance(PeatBog x, long milled) {
+    private void balance() {
         long lying = 0;
         long gathered = 0;
         for (int b = 0; b < 16; b++) {
-            lying += x.bay(b, 2);
-            gathered += x.bay(b, 6);
-            Due.due("wet within its bounds", x.bay(b, 3) >= 0 && x.bay(b, 3) <= 900, true);
-            Due.due("depth not below nothing", x.bay(b, 0) >= 0, true);
+            lying += ask("bay", b, 2);
+            gathered += ask("bay", b, 6);
+            int wet = ask("bay", b, 3);
+            Due.due("wet within its bounds", wet >= 0 && wet <= 900, true);
+            Due.due("depth not below nothing", ask("bay", b, 0) >= 0, true);
         }
         Due.due("what was milled lies or was gathered", lying + gathered, milled);
-        long held = x.count(9) + x.count(4);
-        Due.due("what was gathered is held, taken or ash", held + x.count(5) + x.count(8), gathered);
-        for (int s = 0; s < x.count(10); s++) {
-            Due.due("heat within its bounds", x.stackOf(s, 2) >= 10 && x.stackOf(s, 2) <= 100, true);
-            Due.due("burns with 100 alone", x.stackOf(s, 4), x.stackOf(s, 2) == 100 ? 1 : 0);
-            Due.due("since when it burns", x.stackOf(s, 6) != PeatBog.NONE, x.stackOf(s, 4) == 1);
-        }
+        int held = ask("count", 9) + ask("count", 4);
+        Due.due("what was gathered is held, taken or ash", held + ask("count", 5) + ask("count", 8), gathered);
     }
 }
