@@ -372,7 +372,8 @@ public final class DayBoundsTest {
     private static void takingInOrder() {
         Due.of("from STACKS that don't BURN, those that were begun first");
         // 20, 30 and 40 are there.
-        int[][] wantLeft = {{19, 1, 30, 40}, {20, 0, 30, 40}, {21, 0, 29, 40}, {50, 0, 0, 40}, {51, 0, 0, 39}, {90, 0, 0, 0}};
+        int[][] wantLeft = {{19, 1, 30, 40}, {20, 0, 30, 40}, {21, 0, 29, 40}, {50, 0, 0, 40}, {51, 0, 0, 39},
+            {90, 0, 0, 0}};
         for (int[] row : wantLeft) {
             PeatBog x = new PeatBog();
             for (int s = 0; s < 3; s++) {
@@ -469,9 +470,11 @@ public final class DayBoundsTest {
 
     private static void firstThatHolds() {
         Due.of("the first \"if\" all whose TESTS hold");
-        String[] laws = {"if tons=10 then keep;if tons=10 then send;", "if tons=10 and heat=5 then keep;if tons=10 then turn;",
+        String[] laws = {"if tons=10 then keep;if tons=10 then send;",
+            "if tons=10 and heat=5 then keep;if tons=10 then turn;",
             "if tons=11 then send;if heat=4 and tons=10 and weeks=9 then send;if heat=4 and tons=10 and weeks=1 then turn;",
-            "if heat=5 then send;", "if tons=10 and heat=4 and weeks=2 then send;", "if heat=4 then send;if tons=10 then turn;"};
+            "if heat=5 then send;", "if tons=10 and heat=4 and weeks=2 then send;",
+            "if heat=4 then send;if tons=10 then turn;"};
         int[] turned = {0, 1, 1, 0, 0, 0};
         int[] sent = {0, 0, 0, 0, 0, 1};
         for (int i = 0; i < laws.length; i++) {

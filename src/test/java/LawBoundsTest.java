@@ -5,6 +5,7 @@ public final class LawBoundsTest {
     public static void main(String[] args) {
         tape();
         bytesTaken();
+        bytesBehind();
         lawCount();
         digits();
         letters();
@@ -67,6 +68,30 @@ public final class LawBoundsTest {
         }
     }
 
+    /** What stands behind the first n bytes never makes a token of them longer. */
+    private static void bytesBehind() {
+        Due.of("The first n bytes of the tape (which is empty then) are THE LAW from TODAY on");
+        String text = "limit 12345;close 1 to 23456 from 3 to 4;if heatx<99999 and tons>1 thenturns;";
+        String[] parts = {text, text.substring(12), text.substring(41), "if heat<12345", "depth 0;limits 5;",
+            "limit 7;;", "close 1 tomb"};
+        for (String part : parts) {
+            for (int n = 0; n <= part.length(); n++) {
+                PeatBog x = new PeatBog();
+                Due.feedBytes(x, Due.bytesOf(part));
+                int place = FaultTest.faultOf(part.substring(0, n));
+                Due.due("law(" + n + ") of " + part, x.law(n), place == NONE ? 0 : NONE);
+                Due.due("fault() of the first " + n + " of " + part, x.fault(), place);
+            }
+        }
+        PeatBog x = new PeatBog();
+        Due.feedBytes(x, Due.bytesOf("limit 12345;"));
+        Due.due("four of five digits", x.law(10), NONE);
+        Due.due("more must come", x.fault(), 10);
+        Due.feedBytes(x, Due.bytesOf("limits 5;"));
+        Due.due("five of six letters", x.law(5), NONE);
+        Due.due("more must come", x.fault(), 5);
+    }
+
     private static void lawCount() {
         Due.of("Taken (up to 8)");
         PeatBog x = new PeatBog();
@@ -104,17 +129,21 @@ public final class LawBoundsTest {
 
     private static void letters() {
         Due.of("words of letters a to z, digits, signs");
-        // Beside a and z, 0 and 9 stand bytes that begin no token; so does each capital.
-        for (char c : new char[] {'`', '{', '/', ':', 'A', 'Z', '@', '[', '_', '-', '+', '!', ',', '.', '?', 127, 128, 255, 0}) {
-            dueFault(c + "limit 5;", 0);
-            dueFault("limit" + c + "5;", 5);
-            dueFault("limit 5" + c + ";", 7);
-            dueFault("limit 5;" + c, 8);
-            dueFault("limit " + c, 6);
+        // Beside a and z, 0 and 9 stand bytes that begin no token; no capital begins one either.
+        for (int c : new int[] {'`', '{', '/', ':', 'A', 'Z', '@', '[', '_', '-', '+', '!', ',', '.', '?', 127, 128, 255, 0}) {
+            dueStrange((char) c);
         }
         dueFault("Limit 5;", 0);
         dueFault("limiT 5;", 0);
         dueFault("limit 5; iF", 9);
+    }
+
+    private static void dueStrange(char c) {
+        dueFault(c + "limit 5;", 0);
+        dueFault("limit" + c + "5;", 5);
+        dueFault("limit 5" + c + ";", 7);
+        dueFault("limit 5;" + c, 8);
+        dueFault("limit " + c, 6);
     }
 
     private static void blanks() {

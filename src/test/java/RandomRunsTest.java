@@ -9,7 +9,8 @@ public final class RandomRunsTest {
         500, 501, 900, 901, 1000, 1001, 3000, 3001, Integer.MAX_VALUE};
     private static final String[] LAWS = {"limit 800;", "limit 550;depth 980;", "if heat>20 then turn;",
         "if tons>100 then send;", "close 3 to 9 from 2 to 30;if tons<51 then send;", "if weeks>1 and tons<50 then keep;",
-        "if heat<60 and weeks=1 and tons>10 then turn;if weeks>2 then send;limit 900;", "close 5 to 5 from 20 to 2;depth 990;",
+        "if heat<60 and weeks=1 and tons>10 then turn;if weeks>2 then send;limit 900;",
+        "close 5 to 5 from 20 to 2;depth 990;",
         "limit 700;;", "if weeks<9", "if tons=10 and tons=10 and tons=10 and tons=10 then keep;", "limit 1;".repeat(17)};
     private static final int MOST_CALLS = 512;
     private static final Map<String, Method> OURS = methodsOf(PeatBog.class);
