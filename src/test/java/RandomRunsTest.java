@@ -7,12 +7,11 @@ import java.util.Random;
 public final class RandomRunsTest {
     private static final int[] EDGES = {Integer.MIN_VALUE, -3, -2, -1, 0, 1, 9, 10, 11, 15, 16, 17, 20, 21, 50, 51, 100, 101,
         500, 501, 900, 901, 1000, 1001, 3000, 3001, Integer.MAX_VALUE};
-    private static final String[] LAWS = {"limit 800;", "limit 550;depth 980;", "if heat>20 then turn;",
-        "if tons>100 then send;", "close 3 to 9 from 2 to 30;if tons<51 then send;", "if weeks>1 and tons<50 then keep;",
-        "if heat<60 and weeks=1 and tons>10 then turn;if weeks>2 then send;limit 900;",
-        "close 5 to 5 from 20 to 2;depth 990;",
-        "limit 700;;", "if weeks<9", "if tons=10 and tons=10 and tons=10 and tons=10 then keep;", "limit 1;".repeat(17)};
+    private static final String[] FAULTS = {"limit 700;;", "if weeks<9", "limit 1;".repeat(17),
+        "if tons=10 and tons=10 and tons=10 and tons=10 then keep;"};
+    private static final String[] BLANKS = {" ", " ", " ", "\n", " \n", "  "};
     private static final int MOST_CALLS = 512;
+    private static final int CALLS_OF_STEPS = 270;
     private static final Map<String, Method> OURS = methodsOf(PeatBog.class);
     private static final Map<String, Method> PLAIN = methodsOf(PlainBog.class);
 
@@ -28,12 +27,13 @@ public final class RandomRunsTest {
     }
 
     public static void main(String[] args) {
-        for (int seed = 0; seed < 400; seed++) {
+        for (int seed = 0; seed < 800; seed++) {
             RandomRunsTest run = new RandomRunsTest(seed);
-            while (run.calls < MOST_CALLS - 100) {
+            while (run.calls < CALLS_OF_STEPS) {
                 run.step(seed % 4);
             }
             run.balance();
+            Due.due("calls of a run, at most 512", run.calls <= MOST_CALLS, true);
         }
         Due.finish();
     }
@@ -109,8 +109,8 @@ public final class RandomRunsTest {
     }
 
     private void law() {
-        byte[] bytes = Due.bytesOf(LAWS[random.nextInt(LAWS.length)]);
-        if (random.nextInt(8) == 0) {
+        byte[] bytes = Due.bytesOf(random.nextInt(8) == 0 ? one(FAULTS) : text());
+        if (bytes.length > 0 && random.nextInt(8) == 0) {
             bytes[random.nextInt(bytes.length)] = (byte) random.nextInt(256);
         }
         for (int from = 0; from < bytes.length; from += 20) {
@@ -121,10 +121,41 @@ public final class RandomRunsTest {
             ask("feed", n);
         }
         if (random.nextInt(9) > 0) {
-            ask("law", random.nextInt(6) == 0 ? any(501) : x.count(12));
-            calls++;
+            ask("law", random.nextInt(6) == 0 ? any(501) : ask("count", 12));
             ask("fault");
         }
+    }
+
+    private String text() {
+        StringBuilder text = new StringBuilder();
+        for (int statements = random.nextInt(5); statements > 0; statements--) {
+            text.append(statement().replace(" ", one(BLANKS)));
+        }
+        return text.toString();
+    }
+
+    private String statement() {
+        switch (random.nextInt(7)) {
+            case 0: return "limit " + random.nextInt(1200) + " ;";
+            case 1: return "depth " + (random.nextInt(4) == 0 ? random.nextInt(3001) : 960 + random.nextInt(41)) + ";";
+            case 2: return "close " + random.nextInt(17) + " to " + random.nextInt(17)
+                + " from" + random.nextInt(60) + " to " + random.nextInt(random.nextInt(2) == 0 ? 10 : 400) + ";";
+            default: return "if " + tests() + " then " + one("turn", "send", "keep", "turn") + ";";
+        }
+    }
+
+    private String tests() {
+        StringBuilder tests = new StringBuilder();
+        for (int more = 1 + random.nextInt(3); more > 0; more--) {
+            String what = one("heat", "weeks", "tons");
+            int number = random.nextInt(what.equals("heat") ? 101 : what.equals("weeks") ? 4 : 400);
+            tests.append(what).append(one("<", " > ", ">", "=", "< ")).append(number).append(more > 1 ? " and " : "");
+        }
+        return tests.toString();
+    }
+
+    private String one(String... of) {
+        return of[random.nextInt(of.length)];
     }
 
     private void question() {
@@ -139,10 +170,14 @@ public final class RandomRunsTest {
         }
     }
 
+    /** Asks for all that can be told, so that nothing that went astray on the way stays unseen. */
     private void balance() {
         long lying = 0;
         long gathered = 0;
         for (int b = 0; b < 16; b++) {
+            for (int what : new int[] {1, 4, 5}) {
+                ask("bay", b, what);
+            }
             lying += ask("bay", b, 2);
             gathered += ask("bay", b, 6);
             int wet = ask("bay", b, 3);
@@ -152,5 +187,13 @@ public final class RandomRunsTest {
         Due.due("what was milled lies or was gathered", lying + gathered, milled);
         int held = ask("count", 9) + ask("count", 4);
         Due.due("what was gathered is held, taken or ash", held + ask("count", 5) + ask("count", 8), gathered);
+        for (int what : new int[] {0, 1, 2, 3, 6, 7, 11, 12}) {
+            ask("count", what);
+        }
+        for (int s = ask("count", 10) - 1; s >= 0; s--) {
+            for (int what = 0; what <= 8; what++) {
+                ask("stackOf", s, what);
+            }
+        }
     }
 }
